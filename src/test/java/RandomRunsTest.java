@@ -1,135 +1,149 @@
-import java.util.ArrayList;
-import java.util.List;
 import java.util.Random;
+import java.util.TreeSet;
 
 /**
- * Runs of calls from fixed seeds, with numbers at and beyond every edge: what is refused changes
- * nothing, no call throws but where the document says so, and the parts of the state agree.
+ * Runs of calls from fixed seeds, with numbers at and beyond every edge, held against the model:
+ * every answer is the model's, and no call throws but where the document says so.
  */
 public final class RandomRunsTest {
     private static final Check CHECK = new Check("RandomRunsTest");
+    private static final int SEEDS = 120;
+
     private static final int[] ODD = {
-        Integer.MIN_VALUE, -1000000, -3, -2, -1, 0, 1, 7, 8, 9, 10, 40, 50, 51, 99, 100, 101, 199, 200, 201,
-        999, 1000, 1001, 9999, 10000, 1000000, 1000001, 10000000, 10000001, Integer.MAX_VALUE,
+        Integer.MIN_VALUE, -1000000, -3, -2, -1, 0, 1, 2, 3, 4, 7, 8, 9, 10, 11, 39, 40, 50, 51, 99, 100, 101, 199,
+        200, 201, 999, 1000, 1001, 9999, 10000, 999999, 1000000, 1000001, 10000000, 10000001, Integer.MAX_VALUE,
+    };
+
+    private static final String[] MET = {
+        "rule NONE", "rule RANGE", "rule taken",
+        "issue NONE", "issue RANGE", "issue STATE", "issue FULL", "issue taken",
+        "checkIn NONE", "checkIn RANGE", "checkIn STATE", "checkIn taken",
+        "claim RANGE", "claim taken", "claimed thrown", "claimed taken",
+        "list NONE", "list RANGE", "list STATE", "list FULL", "list taken",
+        "route NONE", "route RANGE", "route STATE", "route taken",
+        "returned NONE", "returned RANGE", "returned STATE", "returned taken",
+        "replace NONE", "replace RANGE", "replace STATE", "replace FULL", "replace taken",
+        "bind NONE", "bind RANGE", "bind STATE", "bind FULL", "bind taken",
+        "volume thrown", "volume taken", "statement NONE", "statement taken", "row thrown", "row taken",
+        "about NONE", "about taken", "cost NONE", "cost RANGE", "cost FULL", "cost taken",
+        "told NONE", "told taken", "lateness NONE", "lateness taken",
+    };
+
+    /** What a kind of runs calls mostly, so that every limit is met in some of them. */
+    private enum Kind {
+        ALL(60, 200, "rule issue issue issue checkIn checkIn claim claim list list route returned replace bind"),
+        MANY_ISSUES(9999, 200, "issue issue issue issue issue issue issue issue checkIn replace claim statement"),
+        ROUTING(60, 5, "issue checkIn checkIn list list list list route route returned returned returned replace"),
+        VOLUMES(9999, 200, "issue issue checkIn checkIn checkIn checkIn bind bind bind"),
+        CLAIMS(60, 200, "rule issue claim claim claim claim checkIn replace"),
+        COSTS(60, 2, "issue cost cost cost cost cost cost cost cost cost");
+
+        final int ordinals;
+        final int most;
+        final String[] calls;
+
+        Kind(int ordinals, int most, String calls) {
+            this.ordinals = ordinals;
+            this.most = most;
+            this.calls = calls.split(" ");
+        }
+    }
+
+    private static final String[] READS = {
+        "claimed", "volume", "row", "about", "about", "about", "told", "told", "lateness", "statement",
     };
 
     public static void main(String[] args) {
-        for (int seed = 0; seed < 60; seed++) {
-            run(seed);
+        TreeSet<String> met = new TreeSet<>();
+        for (Kind kind : Kind.values()) {
+            for (int seed = 0; seed < SEEDS; seed++) {
+                run(kind, seed, met);
+            }
+        }
+        for (String outcome : MET) {
+            if (!met.contains(outcome)) {
+                CHECK.fail("no run meets: " + outcome);
+            }
         }
         CHECK.end();
     }
 
-    private static void run(int seed) {
+    private static void run(Kind kind, int seed, TreeSet<String> met) {
         Random random = new Random(seed);
         IssueRows x = new IssueRows();
-        List<Integer> before = snapshot(x);
-        for (int call = 0; call < 512; call++) {
-            int which = random.nextInt(12);
-            int answer = make(x, which, random, random.nextInt(8) == 0);
-            List<Integer> after = snapshot(x);
-            boolean refused = answer < 0;
-            if (refused && !after.equals(before)) {
-                CHECK.fail("seed " + seed + ", call " + call + " of kind " + which + " is refused and changes something");
+        Model model = new Model();
+        int issues = 0;
+        for (int made = 0; made < Script.MOST_CALLS; made++) {
+            boolean reads = random.nextInt(4) == 0 || made > Script.MOST_CALLS - 60;
+            String[] from = reads ? READS : kind.calls;
+            String name = from[random.nextInt(from.length)];
+            String call = name + numbers(kind, name, issues, random);
+            int want = Calls.make(model, call);
+            int got = Calls.make(x, call);
+            if (got != want) {
+                CHECK.fail(kind + ", seed " + seed + ", call " + made + ": " + call + " answered " + Calls.name(got)
+                    + ", due is " + Calls.name(want));
+                return;
             }
-            before = after;
-            agree(x, seed);
+            if (got >= 0 && (name.equals("issue") || name.equals("replace"))) {
+                issues = got + 1;
+            }
+            met.add(name + " " + outcome(got));
         }
     }
 
-    private static int number(Random random, boolean odd, int usual) {
-        return odd && random.nextInt(3) == 0 ? ODD[random.nextInt(ODD.length)] : random.nextInt(usual);
+    private static String outcome(int answer) {
+        if (answer == Calls.THROWS) {
+            return "thrown";
+        }
+        return answer >= 0 ? "taken" : Calls.name(answer).split(" ")[0];
     }
 
-    private static int make(IssueRows x, int which, Random random, boolean odd) {
-        // Few patterns and ordinals, so that the runs meet the states in which much is refused.
-        int pattern = number(random, odd, 3);
-        int issue = number(random, odd, 60);
-        int day = number(random, odd, 300);
-        int small = number(random, odd, 10);
-        try {
-            switch (which) {
-                case 0:
-                    return x.rule(pattern, 1 + number(random, odd, 60), 1 + number(random, odd, 60), small % 4);
-                case 1:
-                case 2:
-                    return x.issue(pattern, 1 + number(random, odd, 80), day - (small == 0 ? day + 1 : 0));
-                case 3:
-                case 4:
-                    return x.checkIn(issue, 1 + small, day);
-                case 5:
-                    return x.claim(day);
-                case 6:
-                    return x.list(issue, number(random, odd, 1000), 1 + small);
-                case 7:
-                    return x.route(issue, day);
-                case 8:
-                    return x.returned(issue, day);
-                case 9:
-                    return x.replace(issue, day);
-                case 10:
-                    return x.bind(pattern, 1 + small);
-                default:
-                    return random.nextBoolean() ? x.statement(pattern) : x.cost(issue, number(random, odd, 5000));
-            }
-        } catch (RuntimeException e) {
-            CHECK.fail("kind " + which + " throws " + e);
-            return -1;
-        }
-    }
-
-    private static List<Integer> snapshot(IssueRows x) {
-        List<Integer> all = new ArrayList<>();
-        for (int issue = 0; issue < 200 && x.about(issue, 0) >= 0; issue++) {
-            for (int what = 1; what <= 10; what++) {
-                all.add(x.about(issue, what));
-            }
-        }
-        for (int i = 0; i < 100 && x.told(i, 0) >= 0; i++) {
-            all.add(x.told(i, 0));
-            all.add(x.told(i, 1));
-        }
-        for (int pattern = 0; pattern < 10; pattern++) {
-            all.add(x.lateness(pattern));
-        }
-        for (int kind = 0; kind < 2; kind++) {
-            for (int i = 0; i < 200 && read(x, kind, i, 0) >= 0; i++) {
-                for (int what = 0; what < 4; what++) {
-                    all.add(read(x, kind, i, what));
-                }
-            }
-        }
-        for (int volume = 0; volume < 40 && read(x, 2, volume, 0) >= 0; volume++) {
-            for (int i = 0; i <= 50; i++) {
-                all.add(read(x, 2, volume, i));
-            }
-        }
-        return all;
-    }
-
-    private static int read(IssueRows x, int kind, int i, int what) {
-        try {
-            return kind == 0 ? x.claimed(i, what) : kind == 1 ? x.row(i, what) : x.volume(i, what);
-        } catch (IndexOutOfBoundsException e) {
-            if (e.getClass() != IndexOutOfBoundsException.class) {
-                CHECK.fail("the machine throws " + e);
-            }
-            return -1;
+    private static String numbers(Kind kind, String name, int issues, Random random) {
+        int pattern = kind == Kind.VOLUMES ? 0 : random.nextInt(3);
+        int issue = random.nextInt(Math.min(issues + 1, kind.most));
+        int day = random.nextInt(random.nextBoolean() ? 40 : 200);
+        switch (name) {
+            case "rule":
+                return join(random, pattern, 1 + random.nextInt(30), 1 + random.nextInt(30), random.nextInt(4));
+            case "issue":
+                int ordinal = 1 + random.nextInt(kind.ordinals);
+                return join(random, pattern, ordinal, random.nextInt(5) == 0 ? -1 : day);
+            case "checkIn":
+                return join(random, issue, 1 + random.nextInt(99), day);
+            case "claim":
+                return join(random, day);
+            case "claimed":
+                return join(random, random.nextInt(5), random.nextInt(2));
+            case "list":
+                return join(random, issue, random.nextInt(1000), 1 + random.nextInt(20));
+            case "route":
+            case "returned":
+            case "replace":
+                return join(random, issue, day);
+            case "bind":
+                return join(random, pattern, 1 + random.nextInt(random.nextInt(3) + 1));
+            case "volume":
+                return join(random, random.nextInt(5), random.nextInt(3));
+            case "row":
+                return join(random, random.nextInt(4), random.nextInt(4));
+            case "about":
+                return join(random, issue, random.nextInt(11));
+            case "cost":
+                return join(random, issue, 9000000 + random.nextInt(1000001));
+            case "told":
+                return join(random, random.nextInt(100), random.nextInt(2));
+            default:
+                return join(random, pattern);
         }
     }
 
-    private static void agree(IssueRows x, int seed) {
-        for (int issue = 0; issue < 200 && x.about(issue, 0) >= 0; issue++) {
-            int state = x.about(issue, 2);
-            boolean came = state == 3 || state == 5;
-            boolean ok = (state == 5) == (x.about(issue, 8) >= 0)
-                && (state == 6) == (x.about(issue, 9) >= 0)
-                && (!came || (x.about(issue, 6) >= 0 && x.about(issue, 5) >= 1))
-                && (state == 3 || x.about(issue, 7) == -1)
-                && (state != 0 || x.about(issue, 3) == -1);
-            if (!ok) {
-                CHECK.fail("seed " + seed + ": the parts of issue " + issue + " do not agree");
-            }
+    private static String join(Random random, int... numbers) {
+        StringBuilder text = new StringBuilder();
+        boolean odd = random.nextInt(6) == 0;
+        for (int number : numbers) {
+            text.append(' ').append(odd && random.nextInt(2) == 0 ? ODD[random.nextInt(ODD.length)] : number);
         }
+        return text.toString();
     }
 }
