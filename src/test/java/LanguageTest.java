@@ -14,8 +14,8 @@ import java.util.regex.Matcher;
 import java.util.regex.Pattern;
 
 /**
- * The rules of LANGUAGE.md that can be looked at from outside: by reflection, in the text of the
- * class, and by what a run makes. A rule that needs a reader (7, 9) is not tested here.
+ * What can be looked at from outside of LANGUAGE.md's rules 1, 2, 4, 5, 6, 11 and 12: by
+ * reflection, in the text of the class, and by what a run makes. The others need a reader.
  */
 public final class LanguageTest {
     private static final Check CHECK = new Check("LanguageTest");
